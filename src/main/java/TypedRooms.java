@@ -42,7 +42,7 @@ public final class TypedRooms {
         }
         reader.readHouse();
         begin();
-        text.length = 0;
+        text.clear();
     }
 
     // ---- told
@@ -55,9 +55,7 @@ public final class TypedRooms {
     }
 
     public int wipe() {
-        int length = text.length;
-        text.length = 0;
-        return length;
+        return text.clear();
     }
 
     public int fault() {
@@ -85,7 +83,7 @@ public final class TypedRooms {
         if (kind == Sentence.ANSWER) {
             return narrowDoubt() ? settle() : FITS_NONE;
         }
-        doubt.about = 0;
+        doubt.end();
         if (kind == Sentence.ACT) {
             return fitPhrases() ? settle() : FITS_NONE;
         }
@@ -97,7 +95,7 @@ public final class TypedRooms {
             return NO;
         }
         history.takeBack(world.state);
-        doubt.about = 0;
+        doubt.end();
         return history.kept;
     }
 
@@ -200,7 +198,7 @@ public final class TypedRooms {
         reader.draft = old;
         world.state.begin(world.house);
         history.kept = 0;
-        doubt.about = 0;
+        doubt.end();
     }
 
     /** Takes from the PHRASE in doubt all that the ANSWER does not mean; false: it means none. */
@@ -249,7 +247,7 @@ public final class TypedRooms {
             doubt.about = 2;
             return IN_DOUBT;
         }
-        doubt.about = 0;
+        doubt.end();
         if (able == 0) {
             return acts.reason(doubt.act, lowest(doubt.first), lowest(doubt.second));
         }
@@ -361,6 +359,13 @@ public final class TypedRooms {
             length++;
             return true;
         }
+
+        /** How long it was. */
+        int clear() {
+            int old = length;
+            length = 0;
+            return old;
+        }
     }
 
     /** A house as it is told; numbers that no ROOM or THING has yet stand for none at all. */
@@ -433,7 +438,7 @@ public final class TypedRooms {
             boolean asTold;
             switch (pop()) {
                 case 'r': asTold = readRoom(); break;
-                case 't': asTold = readThing(); break;
+                case 't': asTold = readThing() && readTraits(); break;
                 case 'd': asTold = readWay(); break;
                 default: asTold = false;
             }
@@ -466,9 +471,7 @@ public final class TypedRooms {
             draft.adjective[t] = adjective;
             draft.place[t] = place;
             draft.weight[t] = weight;
-            boolean asTold = readTraits(t);
-            draft.things++;
-            return asTold;
+            return true;
         }
 
         private int readAdjective() {
@@ -491,7 +494,9 @@ public final class TypedRooms {
             return isThing(holder) && has(draft.boxes | draft.shelves, holder) ? ROOMS + holder : BAD;
         }
 
-        private boolean readTraits(int t) {
+        /** The TRAITS of the THING that readThing() began; it is there only behind them, so it is not its own KEY. */
+        private boolean readTraits() {
+            int t = draft.things;
             int bit = 1 << t;
             if (skip('c')) {
                 draft.boxes |= bit;
@@ -508,12 +513,16 @@ public final class TypedRooms {
             if (skip('l')) {
                 draft.lamps |= bit;
             }
-            if (!opens || !skip('k')) {
-                return true;
+            int key = opens && skip('k') ? readThingNumber() : NONE;
+            if (key == BAD || t >= THINGS) {
+                return false;
             }
-            draft.keyed |= bit;
-            draft.key[t] = readThingNumber();
-            return draft.key[t] != BAD;
+            if (key != NONE) {
+                draft.keyed |= bit;
+            }
+            draft.key[t] = key;
+            draft.things++;
+            return true;
         }
 
         private boolean readWay() {
@@ -1136,7 +1145,6 @@ public final class TypedRooms {
         }
 
         private int readAnswer() {
-            first.isIt = false;
             skip(W_THE);
             first.adjective = readAdjective();
             first.noun = readNoun();
@@ -1193,6 +1201,10 @@ public final class TypedRooms {
         /** Which PHRASE there is a DOUBT about; 0: there is no DOUBT, and the rest means nothing. */
         int about;
         int act, phrases, first, second;
+
+        void end() {
+            about = 0;
+        }
 
         int fitting() {
             return about == 1 ? first : second;

@@ -1,4 +1,4 @@
-import java.util.function.IntSupplier;
+import java.util.function.IntUnaryOperator;
 
 /** What the tests share: typing into a TypedRooms, and telling answers that are not due. */
 final class Check {
@@ -33,7 +33,7 @@ final class Check {
     }
 
     /** Asks once for each of the numbers that are due, with 0, 1, .. */
-    void dueRow(String call, java.util.function.IntUnaryOperator ask, int... want) {
+    void dueRow(String call, IntUnaryOperator ask, int... want) {
         for (int i = 0; i < want.length; i++) {
             due(call + " " + i, ask.applyAsInt(i), want[i]);
         }
@@ -67,11 +67,5 @@ final class Check {
         for (String sentence : sentences) {
             dueSaid(rooms, sentence, 0);
         }
-    }
-
-    void unchanged(String call, IntSupplier look, Runnable doing) {
-        int before = look.getAsInt();
-        doing.run();
-        due(call + " afterwards", look.getAsInt(), before);
     }
 }

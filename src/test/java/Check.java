@@ -1,8 +1,15 @@
+import java.io.IOException;
+import java.io.UncheckedIOException;
+import java.nio.file.Files;
+import java.nio.file.Path;
 import java.util.function.IntUnaryOperator;
 
-/** What the tests share: typing into a TypedRooms, and telling answers that are not due. */
+/** What the tests share: typing into a house, and telling answers that are not due. */
 final class Check {
+    private static final Path DOCUMENT = Path.of("../shared/DOC.md");
+
     private int wrong = 0;
+    private String document = null;
 
     private Check() {
     }
@@ -19,6 +26,27 @@ final class Check {
             System.out.println(check.wrong + " answers are not as due");
             System.exit(1);
         }
+    }
+
+    /** Tests one sentence, which must stand so in the document; it is told if it does not hold. */
+    void holds(String sentence, Test test) {
+        int before = wrong;
+        due("is in the document: " + sentence, document().contains(sentence) ? 1 : 0, 1);
+        test.run(this);
+        if (wrong != before) {
+            System.out.println("BROKEN: " + sentence);
+        }
+    }
+
+    private String document() {
+        if (document == null) {
+            try {
+                document = Files.readString(DOCUMENT).replaceAll("\\s+", " ");
+            } catch (IOException e) {
+                throw new UncheckedIOException(e);
+            }
+        }
+        return document;
     }
 
     boolean isWrong() {
@@ -39,33 +67,84 @@ final class Check {
         }
     }
 
-    static void type(TypedRooms rooms, String text) {
+    static void type(Rooms rooms, String text) {
         rooms.wipe();
         for (int i = 0; i < text.length(); i++) {
             rooms.write(text.charAt(i));
         }
     }
 
-    static TypedRooms laid(String house) {
-        TypedRooms rooms = new TypedRooms();
-        type(rooms, house);
+    static Rooms typed(String text) {
+        Rooms rooms = new Rooms();
+        for (int i = 0; i < text.length(); i++) {
+            rooms.write(text.charAt(i));
+        }
+        return rooms;
+    }
+
+    static Rooms laid(String house) {
+        Rooms rooms = typed(house);
         rooms.lay();
         return rooms;
     }
 
-    static int said(TypedRooms rooms, String sentence) {
+    /** FAULT of a house, told to a new object. */
+    void dueFault(String house, int want) {
+        due("fault of \"" + house + "\"", typed(house).fault(), want);
+    }
+
+    static int said(Rooms rooms, String sentence) {
         type(rooms, sentence);
         return rooms.say();
     }
 
-    void dueSaid(TypedRooms rooms, String sentence, int want) {
+    void dueSaid(Rooms rooms, String sentence, int want) {
         due("say \"" + sentence + "\"", said(rooms, sentence), want);
     }
 
     /** Says sentences that are all to be done. */
-    void done(TypedRooms rooms, String... sentences) {
+    void done(Rooms rooms, String... sentences) {
         for (String sentence : sentences) {
             dueSaid(rooms, sentence, 0);
+        }
+    }
+
+    /** Says the text that stands as often as told; each time it is to be done. */
+    void doneAgain(Rooms rooms, int times) {
+        for (int i = 0; i < times; i++) {
+            due("say again", rooms.say(), 0);
+        }
+    }
+
+    /** All that can be looked at, but for what the letters of the text are. */
+    static String look(Rooms rooms) {
+        StringBuilder seen = new StringBuilder("doubt ").append(rooms.doubt()).append(", count");
+        for (int what = 0; what <= 11; what++) {
+            seen.append(' ').append(rooms.count(what));
+        }
+        int things = rooms.count(1);
+        for (int t = 0; t < things; t++) {
+            seen.append(", thing ").append(t).append(':');
+            for (int what = 0; what <= 13; what++) {
+                seen.append(' ').append(rooms.thing(t, what));
+            }
+        }
+        int roomCount = rooms.count(0);
+        for (int r = 0; r < roomCount; r++) {
+            seen.append(", room ").append(r).append(':');
+            for (int i = 0; i <= 3; i++) {
+                seen.append(' ').append(rooms.room(r, i)).append(' ').append(rooms.way(r, i)).append(' ').append(rooms.door(r, i));
+            }
+        }
+        return seen.toString();
+    }
+
+    /** Looks must not differ from what they were. */
+    void dueLook(String call, Rooms rooms, String before) {
+        String now = look(rooms);
+        if (!now.equals(before)) {
+            wrong++;
+            System.out.println(call + " changed\n  " + before + "\nto\n  " + now);
         }
     }
 }

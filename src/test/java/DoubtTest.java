@@ -20,20 +20,20 @@ public final class DoubtTest {
         });
     }
 
-    private static void noDoubt(Check check, TypedRooms rooms) {
+    private static void noDoubt(Check check, Rooms rooms) {
         check.due("doubt()", rooms.doubt(), NONE);
         check.due("phrases of the sentence in doubt", rooms.count(10), 0);
         check.due("phrase in doubt", rooms.count(11), NONE);
     }
 
-    private static void doubt(Check check, TypedRooms rooms, int bits, int phrases, int about) {
+    private static void doubt(Check check, Rooms rooms, int bits, int phrases, int about) {
         check.due("doubt()", rooms.doubt(), bits);
         check.due("phrases of the sentence in doubt", rooms.count(10), phrases);
         check.due("phrase in doubt", rooms.count(11), about);
     }
 
     private static void onlyWhereTwoWouldDo(Check check) {
-        TypedRooms rooms = Check.laid(KEYS);
+        Rooms rooms = Check.laid(KEYS);
         noDoubt(check, rooms);
         check.done(rooms, "take red key", "drop key", "take gold key", "take red key", "put gold key in box");
         check.due("the key is in the box that is open", rooms.thing(2, 3), 3);
@@ -46,7 +46,7 @@ public final class DoubtTest {
     }
 
     private static void aboutTheFirst(Check check) {
-        TypedRooms rooms = Check.laid(KEYS);
+        Rooms rooms = Check.laid(KEYS);
         check.dueSaid(rooms, "take the key", 4);
         doubt(check, rooms, 7, 1, 1);
         check.due("turns", rooms.count(3), 0);
@@ -66,7 +66,7 @@ public final class DoubtTest {
     }
 
     private static void aboutTheSecond(Check check) {
-        TypedRooms rooms = Check.laid(KEYS);
+        Rooms rooms = Check.laid(KEYS);
         check.done(rooms, "take red key");
         check.dueSaid(rooms, "put key on table", 4);
         doubt(check, rooms, 32 + 64, 2, 2);
@@ -75,7 +75,7 @@ public final class DoubtTest {
         check.due("the key is on the new table", rooms.thing(0, 3), 6);
         check.due("it", rooms.count(5), 0);
         // Only those that it can be put in are asked about: not the closed one, not the one that is full.
-        TypedRooms boxes = Check.laid("r1;tbar01;taar01co;tabr01c;tacr01c;tadr01c;ti-049;tj-043;");
+        Rooms boxes = Check.laid("r1;tbar01;taar01co;tabr01c;tacr01c;tadr01c;ti-049;tj-043;");
         check.done(boxes, "take key");
         check.dueSaid(boxes, "put key in box", 4);
         doubt(check, boxes, 4 + 8, 2, 2);
@@ -84,7 +84,7 @@ public final class DoubtTest {
     }
 
     private static void firstThenSecond(Check check) {
-        TypedRooms rooms = Check.laid(KEYS);
+        Rooms rooms = Check.laid(KEYS);
         check.done(rooms, "take red key", "take blue key", "open blue box");
         check.dueSaid(rooms, "put key in box", 4);
         doubt(check, rooms, 3, 2, 1);
@@ -101,7 +101,7 @@ public final class DoubtTest {
     }
 
     private static void stillSeveral(Check check) {
-        TypedRooms rooms = Check.laid("r1;tbar01;tbar01;tbbr01;tb-r01;");
+        Rooms rooms = Check.laid("r1;tbar01;tbar01;tbbr01;tb-r01;");
         check.dueSaid(rooms, "take key", 4);
         doubt(check, rooms, 15, 1, 1);
         check.dueSaid(rooms, "key", 4);
@@ -118,14 +118,14 @@ public final class DoubtTest {
 
     private static void wordsOfAnswers(Check check) {
         for (String answer : new String[] {"red", "the red", "red key", "the red key"}) {
-            TypedRooms rooms = Check.laid(KEYS);
+            Rooms rooms = Check.laid(KEYS);
             check.dueSaid(rooms, answer, 2);
             check.dueSaid(rooms, "take key", 4);
             check.dueSaid(rooms, answer, 0);
             check.due("the red key is held", rooms.thing(0, 2), 2);
             check.dueSaid(rooms, answer, 2);
         }
-        TypedRooms rooms = Check.laid(KEYS);
+        Rooms rooms = Check.laid(KEYS);
         check.dueSaid(rooms, "take key", 4);
         for (String text : new String[] {"the", "it", "key red", "red blue", "the the red", "red it", "all", "red key key", "in red"}) {
             check.dueSaid(rooms, text, 2);
@@ -134,7 +134,7 @@ public final class DoubtTest {
     }
 
     private static void answersThatFitNone(Check check) {
-        TypedRooms rooms = Check.laid(KEYS);
+        Rooms rooms = Check.laid(KEYS);
         check.done(rooms, "take gold key");
         check.dueSaid(rooms, "take key", 4);
         for (String text : new String[] {"gold", "gold key", "box", "red box", "old", "rope", "the cup"}) {
@@ -150,13 +150,13 @@ public final class DoubtTest {
             "put key in rope", "take it"};
         int[] due = {3, 8, 13, 0, 0, 0, 12, 0, 17, 3, 3};
         for (int i = 0; i < others.length; i++) {
-            TypedRooms rooms = Check.laid(KEYS);
+            Rooms rooms = Check.laid(KEYS);
             check.dueSaid(rooms, "take key", 4);
             check.dueSaid(rooms, others[i], due[i]);
             noDoubt(check, rooms);
             check.dueSaid(rooms, "red", 2);
         }
-        TypedRooms rooms = Check.laid(KEYS);
+        Rooms rooms = Check.laid(KEYS);
         check.done(rooms, "wait");
         check.dueSaid(rooms, "take key", 4);
         check.due("undo()", rooms.undo(), 0);
@@ -167,7 +167,7 @@ public final class DoubtTest {
     }
 
     private static void whatEndsItNot(Check check) {
-        TypedRooms rooms = Check.laid(KEYS);
+        Rooms rooms = Check.laid(KEYS);
         check.dueSaid(rooms, "take key", 4);
         check.dueSaid(rooms, "take xyz", 1);
         check.dueSaid(rooms, "", 1);
@@ -183,7 +183,7 @@ public final class DoubtTest {
     }
 
     private static void withIt(Check check) {
-        TypedRooms rooms = Check.laid(KEYS);
+        Rooms rooms = Check.laid(KEYS);
         check.done(rooms, "take red key");
         check.dueSaid(rooms, "put it on table", 4);
         doubt(check, rooms, 32 + 64, 2, 2);
@@ -193,7 +193,7 @@ public final class DoubtTest {
     }
 
     private static void takeFrom(Check check) {
-        TypedRooms rooms = Check.laid("r1;taar01c;tabr01c;tb-001;tb-011;tb-011;");
+        Rooms rooms = Check.laid("r1;taar01c;tabr01c;tb-001;tb-011;tb-011;");
         check.dueSaid(rooms, "take key from box", 4);
         doubt(check, rooms, 4 + 8 + 16, 2, 1);
         check.dueSaid(rooms, "take key from blue box", 4);

@@ -20,7 +20,7 @@ public final class LookedAtTest {
     }
 
     private static void wrongNumbers(Check check) {
-        TypedRooms rooms = new TypedRooms();
+        Rooms rooms = new Rooms();
         for (int number : ODD) {
             check.due("thing(" + number + ", 0)", rooms.thing(number, 0), BAD);
             check.due("thing(0, " + number + ")", rooms.thing(0, number), BAD);
@@ -55,7 +55,7 @@ public final class LookedAtTest {
             house.append("tkhr59;");
         }
         house.append("d51n;");
-        TypedRooms rooms = Check.laid(house.toString());
+        Rooms rooms = Check.laid(house.toString());
         check.due("rooms", rooms.count(0), 6);
         check.due("things", rooms.count(1), 16);
         check.due("noun of the last", rooms.thing(15, 0), 10);
@@ -69,7 +69,7 @@ public final class LookedAtTest {
     }
 
     private static void thing(Check check) {
-        TypedRooms rooms = Check.laid("r1;tb-r02;tgdr03cofk00;ta-r01;tcar01l;tl-r09of;tf-r07so;");
+        Rooms rooms = Check.laid("r1;tb-r02;tgdr03cofk00;ta-r01;tcar01l;tl-r09of;tf-r07so;");
         check.dueRow("thing 0,", what -> rooms.thing(0, what), 1, NONE, 0, 0, 2, 2, NONE, NONE, NONE, NONE, 1, NONE, 0, 0, BAD);
         check.dueRow("thing 1,", what -> rooms.thing(1, what), 6, 3, 0, 0, 3, 3, 0, 1, NONE, NONE, 1, 0, 1, 1, BAD);
         check.dueRow("thing 3,", what -> rooms.thing(3, what), 2, 0, 0, 0, 1, 1, NONE, NONE, 0, 20, 1, NONE, 0, 0, BAD);
@@ -84,7 +84,7 @@ public final class LookedAtTest {
     }
 
     private static void totals(Check check) {
-        TypedRooms rooms = Check.laid("r1;ta-r01c;te-002s;tb-013;td-015;tf-r09sf;");
+        Rooms rooms = Check.laid("r1;ta-r01c;te-002s;tb-013;td-015;tf-r09sf;");
         check.dueRow("total", t -> rooms.thing(t, 5), 11, 10, 3, 5, 9, BAD);
         check.done(rooms, "take box", "take coin");
         check.dueRow("total", t -> rooms.thing(t, 5), 6, 5, 3, 5, 9, BAD);
@@ -95,7 +95,7 @@ public final class LookedAtTest {
     }
 
     private static void seen(Check check) {
-        TypedRooms rooms = new TypedRooms();
+        Rooms rooms = new Rooms();
         check.dueRow("seen", t -> rooms.thing(t, 10), 1, 1, 1, 0, 0, 1, 0, 0, 0, 0, BAD);
         check.due("seen", rooms.count(9), 4);
         check.done(rooms, "open red box", "n");
@@ -103,7 +103,7 @@ public final class LookedAtTest {
         check.done(rooms, "s");
         check.dueRow("seen", t -> rooms.thing(t, 10), 1, 1, 1, 1, 0, 1, 0, 0, 0, 0, BAD);
         // A door is seen from both sides, but only out where it is.
-        TypedRooms doors = Check.laid("r1;r1;r1;tl-r09of;d01n00;d02e;");
+        Rooms doors = Check.laid("r1;r1;r1;tl-r09of;d01n00;d02e;");
         check.done(doors, "open door");
         check.dueRow("out in rooms", r -> doors.room(r, 2), 1, 0, 0, BAD);
         check.done(doors, "n");
@@ -113,11 +113,11 @@ public final class LookedAtTest {
         check.dueSaid(doors, "s", 6);
         check.done(doors, "open door", "s", "e");
         check.due("seen from elsewhere", doors.thing(0, 10), 0);
-        TypedRooms back = Check.laid("r1;r1;tl-r19of;d10s00;");
+        Rooms back = Check.laid("r1;r1;tl-r19of;d10s00;");
         check.due("seen from behind, where you begin", back.thing(0, 10), 1);
         check.done(back, "open door", "n");
         // A shelf that is closed hides nothing, a closed box does, a box without o does not.
-        TypedRooms holders = Check.laid("r1;tf-r01so;tb-001;ta-r01co;td-021;te-r01c;ti-041;ta-041co;tj-061;");
+        Rooms holders = Check.laid("r1;tf-r01so;tb-001;ta-r01co;td-021;te-r01c;ti-041;ta-041co;tj-061;");
         check.dueRow("seen", t -> holders.thing(t, 10), 1, 1, 1, 0, 1, 1, 1, 0, BAD);
         check.due("out", holders.room(0, 2), 6);
         check.due("in it", holders.room(0, 3), 8);
@@ -128,7 +128,7 @@ public final class LookedAtTest {
     }
 
     private static void seenInTheDark(Check check) {
-        TypedRooms rooms = Check.laid("r0;r1;tl-r09of;ta-r01c;tb-011;d01n00;d01e;tc-r13l;");
+        Rooms rooms = Check.laid("r0;r1;tl-r09of;ta-r01c;tb-011;d01n00;d01e;tc-r13l;");
         check.due("seen", rooms.count(9), 0);
         check.due("a door in the dark", rooms.thing(0, 10), 0);
         check.due("out", rooms.room(0, 2), 3);
@@ -143,7 +143,7 @@ public final class LookedAtTest {
     }
 
     private static void room(Check check) {
-        TypedRooms rooms = new TypedRooms();
+        Rooms rooms = new Rooms();
         check.dueRow("light", r -> rooms.room(r, 0), 1, 1, 0, BAD);
         check.dueRow("lit", r -> rooms.room(r, 1), 1, 1, 0, BAD);
         check.dueRow("out", r -> rooms.room(r, 2), 4, 2, 1, BAD);
@@ -159,7 +159,7 @@ public final class LookedAtTest {
     }
 
     private static void litByLamps(Check check) {
-        TypedRooms rooms = Check.laid("r1;r0;r0;tc-r01l;ta-r01co;tf-r01s;d01n;d12n;");
+        Rooms rooms = Check.laid("r1;r0;r0;tc-r01l;ta-r01co;tf-r01s;d01n;d12n;");
         check.done(rooms, "take all", "open box", "light lamp");
         check.dueRow("light", r -> rooms.room(r, 0), 1, 0, 0);
         check.dueRow("lit", r -> rooms.room(r, 1), 1, 0, 0);
@@ -173,12 +173,12 @@ public final class LookedAtTest {
         check.done(rooms, "open box", "take lamp", "put lamp on table", "drop table", "n");
         check.dueRow("lit where the lamp is", r -> rooms.room(r, 1), 1, 1, 0);
         // A lamp that is a closed box itself gives light.
-        TypedRooms lantern = Check.laid("r0;r1;tcar02col;tb-001;d01n;");
+        Rooms lantern = Check.laid("r0;r1;tcar02col;tb-001;d01n;");
         check.done(lantern, "n");
         check.due("seen", lantern.count(9), 0);
         check.done(lantern, "s");
         check.dueSaid(lantern, "take lamp", 3);
-        TypedRooms held = Check.laid("r1;r0;tcar02col;tb-001;d01n;");
+        Rooms held = Check.laid("r1;r0;tcar02col;tb-001;d01n;");
         check.done(held, "take lamp", "light lamp", "n");
         check.due("lit", held.room(1, 1), 1);
         check.due("closed", held.thing(0, 6), 0);
@@ -186,14 +186,14 @@ public final class LookedAtTest {
     }
 
     private static void wayAndDoor(Check check) {
-        TypedRooms rooms = new TypedRooms();
+        Rooms rooms = new Rooms();
         check.dueRow("way from 0,", by -> rooms.way(0, by), 1, NONE, NONE, NONE, BAD);
         check.dueRow("way from 1,", by -> rooms.way(1, by), NONE, 0, 2, NONE, BAD);
         check.dueRow("way from 2,", by -> rooms.way(2, by), NONE, NONE, NONE, 1, BAD);
         check.dueRow("door from 0,", by -> rooms.door(0, by), NONE, NO, NO, NO, BAD);
         check.dueRow("door from 1,", by -> rooms.door(1, by), NO, NONE, 9, NO, BAD);
         check.dueRow("door from 2,", by -> rooms.door(2, by), NO, NO, NO, 9, BAD);
-        TypedRooms all = Check.laid("r1;r1;r1;r1;r1;tl-r09of;d01n;d02s;d03e00;d04w;");
+        Rooms all = Check.laid("r1;r1;r1;r1;r1;tl-r09of;d01n;d02s;d03e00;d04w;");
         check.dueRow("way from 0,", by -> all.way(0, by), 1, 2, 3, 4, BAD);
         check.dueRow("way from 1,", by -> all.way(1, by), NONE, 0, NONE, NONE, BAD);
         check.dueRow("way from 2,", by -> all.way(2, by), 0, NONE, NONE, NONE, BAD);
@@ -206,7 +206,7 @@ public final class LookedAtTest {
     }
 
     private static void steps(Check check) {
-        TypedRooms rooms = new TypedRooms();
+        Rooms rooms = new Rooms();
         check.dueRow("steps from 0 to", b -> rooms.steps(0, b, 0), 0, 1, NONE, BAD);
         check.dueRow("steps by any from 0 to", b -> rooms.steps(0, b, 1), 0, 1, 2, BAD);
         check.dueRow("steps from 2 to", b -> rooms.steps(2, b, 0), NONE, NONE, 0, BAD);
@@ -214,22 +214,22 @@ public final class LookedAtTest {
         check.dueRow("steps by a door that is not locked", b -> rooms.steps(0, b, 0), 0, 1, NONE, BAD);
         check.done(rooms, "open door");
         check.dueRow("steps by an open door", b -> rooms.steps(0, b, 0), 0, 1, 2, BAD);
-        TypedRooms row = Check.laid("r1;r1;r1;r1;r1;r1;tl-r09of;d01n;d12n;d23n;d34n;d45n;d05e00;");
+        Rooms row = Check.laid("r1;r1;r1;r1;r1;r1;tl-r09of;d01n;d12n;d23n;d34n;d45n;d05e00;");
         check.dueRow("steps from 0 to", b -> row.steps(0, b, 0), 0, 1, 2, 3, 4, 5, BAD);
         check.dueRow("steps by any from 0 to", b -> row.steps(0, b, 1), 0, 1, 2, 3, 2, 1, BAD);
         check.dueRow("steps from 5 to", b -> row.steps(5, b, 0), 5, 4, 3, 2, 1, 0, BAD);
         check.done(row, "open door");
         check.dueRow("steps from 5 to", b -> row.steps(5, b, 0), 1, 2, 3, 2, 1, 0, BAD);
-        TypedRooms apart = Check.laid("r1;r1;r1;r1;d01n;d23n;");
+        Rooms apart = Check.laid("r1;r1;r1;r1;d01n;d23n;");
         check.dueRow("steps from 0 to", b -> apart.steps(0, b, 1), 0, 1, NONE, NONE, BAD);
         check.dueRow("steps from 3 to", b -> apart.steps(3, b, 0), NONE, NONE, 1, 0, BAD);
         // A second way past a closed door.
-        TypedRooms two = Check.laid("r1;r1;tl-r09of;d01n00;d01e;");
+        Rooms two = Check.laid("r1;r1;tl-r09of;d01n00;d01e;");
         check.dueRow("steps from 1 to", b -> two.steps(1, b, 0), 1, 0, BAD);
     }
 
     private static void count(Check check) {
-        TypedRooms rooms = new TypedRooms();
+        Rooms rooms = new Rooms();
         check.done(rooms, "take lamp", "light it", "look", "n");
         check.dueSaid(rooms, "take key", 0);
         check.done(rooms, "s");

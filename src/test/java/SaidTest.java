@@ -20,25 +20,20 @@ public final class SaidTest {
     }
 
     private static void words(Check check) {
-        TypedRooms rooms = new TypedRooms();
         for (String text : new String[] {"", " ", "  ", " look", "look ", "look  in box", "Look", "look.", "loo", "looks",
-            "takelamp", "take lamp!", "xyz", "go north", "open 1", "the the x"}) {
-            check.dueSaid(rooms, text, 1);
+            "takelamp", "take lamp!", "xyz", "go north", "open 1", "the the x", "n ".repeat(120)}) {
+            notDone(check, text, 1);
         }
         for (String word : ("box key lamp coin bag table chest book cup rope ball door "
             + "red blue old new big small gold iron take drop put open close lock unlock light douse go "
             + "in on from with the it all").split(" ")) {
-            check.dueSaid(rooms, word, 2);
+            notDone(check, word, 2);
         }
-        check.due("turns", rooms.count(3), 0);
-        check.dueSaid(rooms, "n ".repeat(119) + "n", 2);
-        check.dueSaid(rooms, "n ".repeat(119) + "in", 2);
-        check.due("letters of a full text", rooms.count(7), 240);
-        check.dueSaid(rooms, "n ".repeat(120), 1);
+        notDone(check, "n ".repeat(119) + "n", 2);
+        notDone(check, "n ".repeat(119) + "in", 2);
     }
 
     private static void noSentences(Check check) {
-        TypedRooms rooms = new TypedRooms();
         for (String text : new String[] {"take the", "take red", "take box red", "take red blue box", "take the the box",
             "take the it", "take red it", "take box key", "take lamp from", "take lamp from red", "take from box",
             "take lamp in box", "take lamp with key", "take all all", "take all from box", "take the all",
@@ -48,13 +43,19 @@ public final class SaidTest {
             "douse", "look box", "look in", "look on table", "look in all", "look look", "wait wait", "wait n",
             "go", "go go", "go in", "go n n", "go the n", "n n", "the n", "it", "the lamp", "red", "lamp", "red box",
             "all", "lamp take", "in box"}) {
-            check.dueSaid(rooms, text, 2);
+            notDone(check, text, 2);
         }
+    }
+
+    private static void notDone(Check check, String text, int want) {
+        Rooms rooms = new Rooms();
+        check.dueSaid(rooms, text, want);
         check.due("turns", rooms.count(3), 0);
+        check.due("letters", rooms.count(7), text.length());
     }
 
     private static void sentences(Check check) {
-        TypedRooms rooms = new TypedRooms();
+        Rooms rooms = new Rooms();
         check.done(rooms, "open the red box", "take gold key from red box", "put the gold key in the red box",
             "take it", "put it on the table", "look in red box");
         check.due("told", rooms.count(4), 0);
@@ -69,7 +70,7 @@ public final class SaidTest {
 
     /** What is not SEEN does not count; the first PHRASE is as good as the second. */
     private static void fitting(Check check) {
-        TypedRooms rooms = new TypedRooms();
+        Rooms rooms = new Rooms();
         check.dueSaid(rooms, "take rope", 3);
         check.dueSaid(rooms, "take gold key", 3);
         check.dueSaid(rooms, "take key", 3);
@@ -82,7 +83,7 @@ public final class SaidTest {
         check.done(rooms, "take gold key");
         check.dueSaid(rooms, "take old table", 3);
         check.due("turns", rooms.count(3), 2);
-        TypedRooms dark = Check.laid("r1;r0;tb-r01;tccr03l;tbar11;d01n;");
+        Rooms dark = Check.laid("r1;r0;tb-r01;tccr03l;tbar11;d01n;");
         check.done(dark, "take lamp", "light it", "n");
         check.due("seen", dark.count(9), 2);
         check.done(dark, "douse lamp");
@@ -95,7 +96,7 @@ public final class SaidTest {
     }
 
     private static void it(Check check) {
-        TypedRooms rooms = new TypedRooms();
+        Rooms rooms = new Rooms();
         check.dueSaid(rooms, "take it", 3);
         check.done(rooms, "take lamp");
         check.due("it", rooms.count(5), 5);
@@ -118,7 +119,7 @@ public final class SaidTest {
     }
 
     private static void all(Check check) {
-        TypedRooms rooms = new TypedRooms();
+        Rooms rooms = new Rooms();
         check.dueSaid(rooms, "drop all", 17);
         // The boxes (3 and 3) and the lamp (3) can be carried, the table is fixed.
         check.done(rooms, "take all");
@@ -134,23 +135,23 @@ public final class SaidTest {
         check.dueRow("place", t -> rooms.thing(t, 3), 0, 1, 1, 1, 1, 1, 2);
         check.due("kind of place of what is in the box", rooms.thing(6, 2), 1);
         // Lowest first: 9 can be taken, then 4 is too much, then 3 is not.
-        TypedRooms heavy = Check.laid("r1;tg-r09;th-r04;ti-r03;tj-r01;tk-r01f;");
+        Rooms heavy = Check.laid("r1;tg-r09;th-r04;ti-r03;tj-r01;tk-r01f;");
         check.done(heavy, "take all");
         check.dueRow("kind of place", t -> heavy.thing(t, 2), 2, 0, 2, 0, 0, BAD);
         check.due("with you", heavy.count(8), 12);
-        TypedRooms inside = Check.laid("r1;ta-r01c;tb-001;tf-r01s;tc-021;");
+        Rooms inside = Check.laid("r1;ta-r01c;tb-001;tf-r01s;tc-021;");
         check.done(inside, "take all");
         check.dueRow("kind of place", t -> inside.thing(t, 2), 2, 1, 2, 1);
         check.done(inside, "drop all");
         check.dueRow("kind of place", t -> inside.thing(t, 2), 0, 1, 0, 1);
         // The same things, told in an order in which what is inside comes first, once it was put in.
-        TypedRooms outside = Check.laid("r1;tb-r01;ta-r01c;");
+        Rooms outside = Check.laid("r1;tb-r01;ta-r01c;");
         check.done(outside, "take key", "put key in box", "take all");
         check.dueRow("kind of place", t -> outside.thing(t, 2), 2, 2);
     }
 
     private static void going(Check check) {
-        TypedRooms rooms = new TypedRooms();
+        Rooms rooms = new Rooms();
         for (String side : new String[] {"s", "e", "w", "go s", "go e", "go w"}) {
             check.dueSaid(rooms, side, 12);
         }
@@ -171,7 +172,7 @@ public final class SaidTest {
     }
 
     private static void looking(Check check) {
-        TypedRooms rooms = new TypedRooms();
+        Rooms rooms = new Rooms();
         check.done(rooms, "look");
         check.due("told", rooms.count(4), 4);
         check.due("it", rooms.count(5), NONE);
@@ -185,13 +186,13 @@ public final class SaidTest {
         check.done(rooms, "look");
         check.due("told", rooms.count(4), 5);
         // Only what has the box itself for its place counts.
-        TypedRooms nested = Check.laid("r1;ta-r01c;te-001c;td-011;tj-001;");
+        Rooms nested = Check.laid("r1;ta-r01c;te-001c;td-011;tj-001;");
         check.done(nested, "look in box");
         check.due("told", nested.count(4), 2);
     }
 
     private static void lamps(Check check) {
-        TypedRooms rooms = Check.laid("r1;r0;tccr03l;tcdr03l;d01n;");
+        Rooms rooms = Check.laid("r1;r0;tccr03l;tcdr03l;d01n;");
         check.done(rooms, "take old lamp", "light old lamp");
         check.due("oil", rooms.thing(0, 9), 19);
         check.due("oil of the other", rooms.thing(1, 9), 20);
@@ -228,7 +229,7 @@ public final class SaidTest {
 
     /** The reason told is that of the lowest of each PHRASE. */
     private static void reasons(Check check) {
-        TypedRooms rooms = Check.laid("r1;tbar01;tbbr01f;taar01co;tabr01s;");
+        Rooms rooms = Check.laid("r1;tbar01;tbbr01f;taar01co;tabr01s;");
         check.dueSaid(rooms, "drop key", 13);
         check.dueSaid(rooms, "put key in box", 13);
         check.done(rooms, "take red key");
@@ -243,7 +244,7 @@ public final class SaidTest {
     }
 
     private static void undo(Check check) {
-        TypedRooms rooms = new TypedRooms();
+        Rooms rooms = new Rooms();
         check.due("undo() at first", rooms.undo(), NO);
         check.done(rooms, "take lamp", "light it", "look", "open red box", "put lamp in it");
         check.due("can be undone", rooms.count(6), 5);
@@ -266,7 +267,7 @@ public final class SaidTest {
     }
 
     private static void undoAll(Check check) {
-        TypedRooms rooms = new TypedRooms();
+        Rooms rooms = new Rooms();
         check.done(rooms, "n", "s", "take all", "drop all", "wait", "look", "n", "take iron key");
         check.due("can be undone", rooms.count(6), 8);
         check.done(rooms, "unlock door with key");
@@ -284,7 +285,7 @@ public final class SaidTest {
         check.due("undo() after a new sentence", rooms.undo(), 0);
         check.due("turns", rooms.count(3), 1);
         // A refused sentence may not push the oldest out.
-        TypedRooms other = new TypedRooms();
+        Rooms other = new Rooms();
         check.done(other, "n", "wait", "wait", "wait", "wait", "wait", "wait", "wait");
         check.dueSaid(other, "drop all", 17);
         check.dueSaid(other, "take all", 0);

@@ -28,7 +28,7 @@ public final class ToldTest {
     }
 
     private static void newObject(Check check) {
-        TypedRooms rooms = new TypedRooms();
+        Rooms rooms = new Rooms();
         check.dueRow("count", rooms::count, 3, 10, 0, 0, 0, NONE, 0, 0, 0, 4, 0, NONE, BAD);
         check.dueRow("noun of thing", t -> rooms.thing(t, 0), 5, 0, 0, 1, 1, 2, 3, 6, 3, 11, BAD);
         check.dueRow("adjective of thing", t -> rooms.thing(t, 1), NONE, 0, 1, 6, 7, 2, 6, 4, 2, 7, BAD);
@@ -42,7 +42,7 @@ public final class ToldTest {
     }
 
     private static void write(Check check) {
-        TypedRooms rooms = new TypedRooms();
+        Rooms rooms = new Rooms();
         check.due("write the letter ahead of the first", rooms.write(31), BAD);
         check.due("write the letter behind the last", rooms.write(127), BAD);
         check.due("write(0)", rooms.write(0), BAD);
@@ -63,7 +63,7 @@ public final class ToldTest {
     }
 
     private static void wipe(Check check) {
-        TypedRooms rooms = new TypedRooms();
+        Rooms rooms = new Rooms();
         check.due("wipe() of an empty text", rooms.wipe(), 0);
         Check.type(rooms, "look");
         check.due("wipe()", rooms.wipe(), 4);
@@ -75,7 +75,7 @@ public final class ToldTest {
     }
 
     private static void fault(Check check, String house, int want) {
-        TypedRooms rooms = new TypedRooms();
+        Rooms rooms = new Rooms();
         Check.type(rooms, house);
         check.due("fault of \"" + house + "\"", rooms.fault(), want);
         check.due("letters after fault()", rooms.count(7), Math.min(house.length(), 240));
@@ -211,7 +211,7 @@ public final class ToldTest {
     }
 
     private static void lay(Check check) {
-        TypedRooms rooms = new TypedRooms();
+        Rooms rooms = new Rooms();
         check.due("lay() of an empty text", rooms.lay(), NO);
         Check.type(rooms, "r1;x");
         check.due("lay() of a text with a fault", rooms.lay(), NO);
@@ -230,7 +230,7 @@ public final class ToldTest {
     }
 
     private static void layBeginsAnew(Check check) {
-        TypedRooms rooms = new TypedRooms();
+        Rooms rooms = new Rooms();
         check.done(rooms, "take lamp", "light lamp", "look", "n");
         Check.type(rooms, "r1;r2;");
         check.due("lay() with a fault", rooms.lay(), NO);
@@ -253,7 +253,7 @@ public final class ToldTest {
     }
 
     private static void nothingIsLeftOfOtherHouses(Check check) {
-        TypedRooms rooms = new TypedRooms();
+        Rooms rooms = new Rooms();
         String full = "r1;r1;tb-r01;ta-r09cofk00;ta-r09sof;tc-r09l;tl-r09of;d01n04;";
         for (int times = 0; times < 2; times++) {
             Check.type(rooms, full);

@@ -20,7 +20,7 @@ public final class WouldTest {
     }
 
     private static void wrongNumbers(Check check) {
-        TypedRooms rooms = new TypedRooms();
+        Rooms rooms = new Rooms();
         int[] odd = {Integer.MIN_VALUE, -1, 10, 15, 16, 32, Integer.MAX_VALUE};
         for (int act = 0; act <= 11; act++) {
             boolean two = act == 2 || act == 3 || act == 6 || act == 7 || act == 11;
@@ -37,25 +37,25 @@ public final class WouldTest {
     }
 
     private static void taking(Check check) {
-        TypedRooms rooms = new TypedRooms();
+        Rooms rooms = new Rooms();
         check.dueRow("take", x -> rooms.would(0, x, 0), 8, 0, 0, 0, 0, 0, 0, 8, 0, 8, BAD);
         check.done(rooms, "take lamp");
         check.due("take what is held", rooms.would(0, 5, 0), 9);
     }
 
     private static void weights(Check check) {
-        TypedRooms rooms = Check.laid("r1;tg-r09;th-r03;ti-r01;ta-r02c;tj-034;tk-037f;");
+        Rooms rooms = Check.laid("r1;tg-r09;th-r03;ti-r01;ta-r02c;tj-034;tk-037f;");
         check.done(rooms, "take chest");
         check.due("take up to 12", rooms.would(0, 1, 0), 0);
         check.due("take with what is in it", rooms.would(0, 3, 0), 10);
         check.done(rooms, "take book");
         check.due("take to 13", rooms.would(0, 2, 0), 10);
         check.due("take what is held", rooms.would(0, 1, 0), 9);
-        TypedRooms box = Check.laid("r1;ta-r05c;tb-007;tj-r01;");
+        Rooms box = Check.laid("r1;ta-r05c;tb-007;tj-r01;");
         check.done(box, "take box");
         check.due("what you carry already weighs no more", box.would(0, 1, 0), 0);
         check.due("take to 13", box.would(0, 2, 0), 10);
-        TypedRooms nested = Check.laid("r1;ta-r01c;te-005c;td-016;ti-r01;");
+        Rooms nested = Check.laid("r1;ta-r01c;te-005c;td-016;ti-r01;");
         check.due("take to 12, of three", nested.would(0, 0, 0), 0);
         check.done(nested, "take box");
         check.due("take to 13", nested.would(0, 3, 0), 10);
@@ -63,7 +63,7 @@ public final class WouldTest {
     }
 
     private static void dropping(Check check) {
-        TypedRooms rooms = new TypedRooms();
+        Rooms rooms = new Rooms();
         check.dueRow("drop", x -> rooms.would(1, x, 0), 13, 13, 13, 13, 13, 13, 13, 13, 13, 13, BAD);
         check.done(rooms, "take red box");
         check.due("drop what is held", rooms.would(1, 1, 0), 0);
@@ -72,7 +72,7 @@ public final class WouldTest {
 
     private static void putting(Check check) {
         // 0 key, 1 box that is closed, 2 bag (a box without o), 3 table, 4 cup in the bag, 5 closed shelf.
-        TypedRooms rooms = Check.laid("r1;tb-r01;ta-r01co;te-r01c;tf-r01s;ti-021;tg-r01so;");
+        Rooms rooms = Check.laid("r1;tb-r01;ta-r01co;te-r01c;tf-r01s;ti-021;tg-r01so;");
         for (int act = 2; act <= 3; act++) {
             check.due("put a thing in itself", rooms.would(act, 2, 2), 14);
             check.due("put a thing in what is in it", rooms.would(act, 2, 4), 14);
@@ -96,7 +96,7 @@ public final class WouldTest {
     }
 
     private static void puttingWeights(Check check) {
-        TypedRooms rooms = Check.laid("r1;ta-r09c;te-003c;tb-013;ti-r06;tj-r01;tf-r09s;tk-056;");
+        Rooms rooms = Check.laid("r1;ta-r09c;te-003c;tb-013;ti-r06;tj-r01;tf-r09s;tk-056;");
         check.done(rooms, "take cup", "take rope");
         check.due("6 and 6 in it", rooms.would(2, 3, 0), 0);
         check.due("6 and 6 on it", rooms.would(3, 3, 5), 0);
@@ -109,7 +109,7 @@ public final class WouldTest {
     }
 
     private static void opening(Check check) {
-        TypedRooms rooms = Check.laid("r1;tb-r01;ta-r01co;tg-r01cok00;tf-r01s;");
+        Rooms rooms = Check.laid("r1;tb-r01;ta-r01co;tg-r01cok00;tf-r01s;");
         check.dueRow("open", x -> rooms.would(4, x, 0), 8, 0, 7, 8, BAD);
         check.dueRow("close", x -> rooms.would(5, x, 0), 8, 9, 9, 8, BAD);
         check.done(rooms, "open box");
@@ -119,7 +119,7 @@ public final class WouldTest {
 
     private static void locking(Check check) {
         // 0 and 1 keys, 2 chest that key 0 fits, 3 box that can be open.
-        TypedRooms rooms = Check.laid("r1;tbar01;tbbr01;tg-r01cok00;ta-r01co;");
+        Rooms rooms = Check.laid("r1;tbar01;tbbr01;tg-r01cok00;ta-r01co;");
         check.due("lock what has no lock", rooms.would(6, 3, 0), 8);
         check.due("unlock what has no lock", rooms.would(7, 3, 0), 8);
         check.due("lock what is locked", rooms.would(6, 2, 0), 9);
@@ -145,7 +145,7 @@ public final class WouldTest {
     }
 
     private static void lighting(Check check) {
-        TypedRooms rooms = Check.laid("r1;tc-r01l;tb-r01;");
+        Rooms rooms = Check.laid("r1;tc-r01l;tb-r01;");
         check.dueRow("light", x -> rooms.would(8, x, 0), 13, 8, BAD);
         check.dueRow("douse", x -> rooms.would(9, x, 0), 9, 8, BAD);
         check.done(rooms, "take lamp");
@@ -164,14 +164,14 @@ public final class WouldTest {
     }
 
     private static void lookingIn(Check check) {
-        TypedRooms rooms = new TypedRooms();
+        Rooms rooms = new Rooms();
         check.dueRow("look in", x -> rooms.would(10, x, 0), 8, 6, 6, 8, 8, 8, 8, 6, 8, 8, BAD);
         check.done(rooms, "open red box");
         check.dueRow("look in", x -> rooms.would(10, x, 0), 8, 0, 6, 8, 8, 8, 8, 6, 8, 8, BAD);
     }
 
     private static void takingFrom(Check check) {
-        TypedRooms rooms = new TypedRooms();
+        Rooms rooms = new Rooms();
         check.due("take from where it is not", rooms.would(11, 5, 1), 18);
         check.due("take from where it is", rooms.would(11, 5, 0), 0);
         check.due("take from what holds what holds it", rooms.would(11, 3, 0), 18);
@@ -179,7 +179,7 @@ public final class WouldTest {
         check.due("take what is fixed from elsewhere", rooms.would(11, 0, 1), 18);
         check.done(rooms, "take lamp");
         check.due("take what is held from elsewhere", rooms.would(11, 5, 0), 18);
-        TypedRooms heavy = Check.laid("r1;tf-r01s;tb-009f;tg-009;th-004;");
+        Rooms heavy = Check.laid("r1;tf-r01s;tb-009f;tg-009;th-004;");
         check.due("take what is fixed", heavy.would(11, 1, 0), 8);
         check.done(heavy, "take chest from table");
         check.due("take too much", heavy.would(11, 3, 0), 10);
@@ -188,7 +188,7 @@ public final class WouldTest {
     }
 
     private static void changesNothing(Check check) {
-        TypedRooms rooms = new TypedRooms();
+        Rooms rooms = new Rooms();
         check.done(rooms, "n");
         check.due("of what is not seen", rooms.would(4, 1, 0), 0);
         for (int act = 0; act <= 11; act++) {

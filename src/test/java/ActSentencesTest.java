@@ -307,7 +307,10 @@ public final class ActSentencesTest {
         check.done(rooms, "take red key", "unlock chest with red key", "open chest", "drop red key");
         // 16 is ahead of 13.
         reason(check, rooms, LOCK, with(2, 0), "lock chest with red key", 16);
-        check.done(rooms, "close chest");
+        // 16 is ahead of 11.
+        check.done(rooms, "take blue key");
+        reason(check, rooms, LOCK, with(2, 1), "lock chest with blue key", 16);
+        check.done(rooms, "drop blue key", "close chest");
         // 13 is ahead of 11.
         reason(check, rooms, LOCK, with(2, 1), "lock chest with blue key", 13);
         reason(check, rooms, LOCK, with(2, 0), "lock chest with red key", 13);
@@ -316,6 +319,16 @@ public final class ActSentencesTest {
         reason(check, rooms, LOCK, with(2, 0), "lock chest with red key", 0);
         check.due("locked", rooms.thing(2, 7), 1);
         check.due("it", rooms.count(5), 2);
+        // To lock one leaves another as it is, locked or not.
+        Rooms three = Check.laid("r1;tb-r01;tg-r01cok00;ta-r01cok00;te-r01cok00;");
+        check.done(three, "take key", "unlock chest with key", "unlock box with key", "lock chest with key");
+        check.dueRow("locked", t -> three.thing(t, 7), NONE, 1, 0, 1);
+        check.done(three, "unlock bag with key");
+        check.dueRow("locked", t -> three.thing(t, 7), NONE, 1, 0, 0);
+        // 9 is ahead of 11, with the wrong key in hand.
+        Rooms wrong = Check.laid("r1;tbar01;tbbr01;tg-r01cok00;");
+        check.done(wrong, "take blue key");
+        reason(check, wrong, LOCK, with(2, 1), "lock chest with blue key", 9);
     }
 
     private static void unlock(Check check) {
@@ -428,6 +441,15 @@ public final class ActSentencesTest {
         reason(check, rooms, TAKE_FROM, with(6, 4), "take ball from table", 10);
         // 18 is ahead of 10.
         reason(check, rooms, TAKE_FROM, with(6, 0), "take ball from box", 18);
+        // That y is closed, or what is in x, is asked no more than of take x.
+        Rooms closed = Check.laid("r1;ta-r01co;tb-001;tg-r01c;te-022c;ti-036;tk-r05;");
+        check.due("from a closed box", closed.would(TAKE_FROM, 1, 0), 0);
+        check.done(closed, "take ball");
+        reason(check, closed, TAKE_FROM, with(3, 2), "take bag from chest", 10);
+        check.done(closed, "drop ball", "take chest");
+        // What is carried weighs no more.
+        reason(check, closed, TAKE_FROM, with(3, 2), "take bag from chest", 0);
+        check.due("with you", closed.count(8), 9);
     }
 
     private static void wouldBe(Check check) {

@@ -156,8 +156,9 @@ public final class HouseSentencesTest {
         check.dueFault("r1;ta-r01c;tb-0r1;", 11);
         // The letters next to the figures would make 00, if they were taken for figures.
         check.dueFault("r1;ta-r01c;tb-/:1;", 11);
-        check.dueFault("r1;" + "ta-r01c;".repeat(10) + "tb-0:1;", 83);
-        check.dueFault("r1;" + "ta-r01c;".repeat(10) + "tb-1/1;", 83);
+        check.dueFault("r1;" + "ta-r01c;".repeat(11) + "tb-101;", NONE);
+        check.dueFault("r1;" + "ta-r01c;".repeat(11) + "tb-0:1;", 91);
+        check.dueFault("r1;" + "ta-r01c;".repeat(11) + "tb-1/1;", 91);
         String fifteen = "r1;" + "ta-r01c;".repeat(15);
         check.dueFault(fifteen + "tb-141;", NONE);
         check.dueFault(fifteen + "tb-151;", fifteen.length());
@@ -297,6 +298,8 @@ public final class HouseSentencesTest {
         check.dueFault("r1;tb-r01;ta-r01ok0a;", 10);
         check.dueFault("r1;tb-r01;ta-r01ok-0;", 10);
         check.dueFault("r1;tb-r01;ta-r01ok/:;", 10);
+        check.dueFault("r1;" + "tb-r01;".repeat(11) + "ta-r01ok0:;", 80);
+        check.dueFault("r1;" + "tb-r01;".repeat(11) + "ta-r01ok1/;", 80);
         String fifteen = "r1;" + "tb-r01;".repeat(15);
         check.dueFault(fifteen + "ta-r01ok14;", NONE);
         check.dueFault(fifteen + "ta-r01ok15;", fifteen.length());
@@ -438,6 +441,8 @@ public final class HouseSentencesTest {
     private static void noDoorYet(Check check) {
         check.dueFault(DOOR + "d01n00;d01s00;", 22);
         check.dueFault("r1;r1;r1;tl-r09of;d01n00;d02s00;", 25);
+        check.dueFault(DOOR + "tl-r09of;d01n00;d01s01;d01e00;", 38);
+        check.dueFault(DOOR + "tl-r09of;d01n00;d01s01;d01e01;", 38);
         check.dueFault(DOOR + "tl-r09of;d01n00;d01s01;", NONE);
         check.dueFault(DOOR + "tl-r19of;d01n00;d10n01;", NONE);
         check.dueFault(DOOR + "d01s;d01n00;", NONE);
@@ -482,10 +487,25 @@ public final class HouseSentencesTest {
         check.dueFault("", NONE);
         check.dueFault("r0;", NONE);
         check.dueFault(FIRST_HOUSE, NONE);
-        // As many letters as there can be: 6 ROOMS, 16 THINGS and ways.
-        String full = "r1;".repeat(6) + "tb-r01cofl;".repeat(16) + "d01n;d01s;d01e;d01w;d23n;d23s;d23e;d23w;";
+        // As many ROOMS, THINGS and letters as there can be.
+        String full = "r1;".repeat(6) + "tb-r01cofl;".repeat(14) + "tb-r01coflk00;".repeat(2)
+            + "d01n;d01s;d01e;d01w;d23n;d23s;d23e;d23w;";
+        check.due("letters", full.length(), 240);
         check.dueFault(full, NONE);
-        check.dueFault(full + "x", full.length());
+        check.due("lay() of 240 letters", Check.typed(full).lay(), 6);
+        check.dueFault(full + "x", NONE);
+        // The last ; found no place.
+        check.dueFault(full.substring(0, 235) + "d45w00;", 235);
+        // To ask changes nothing, whether the text has a fault or none.
+        for (String house : new String[] {"r0;r0;r0;tcar01l;taar01co;tb-011;d02e;", "r0;r0;taar01cofl;d01n;d01n;"}) {
+            Rooms rooms = Check.laid("r1;r1;tb-r01;tc-r01l;d01s;");
+            check.done(rooms, "take lamp", "light lamp");
+            Check.type(rooms, house);
+            String before = Check.look(rooms);
+            rooms.fault();
+            check.dueLook("fault()", rooms, before);
+            check.due("undo()", rooms.undo(), 1);
+        }
     }
 
     private static void newObject(Check check) {
@@ -668,6 +688,35 @@ public final class HouseSentencesTest {
         check.due("fault() of the text that stays", rooms.fault(), NONE);
         check.dueSaid(rooms, "take it", 3);
         check.dueSaid(rooms, "red", 2);
+        nothingIsLeft(check);
+    }
+
+    /** Of the houses before: their light, ways and doors, and the TRAITS of their THINGS. */
+    private static void nothingIsLeft(Check check) {
+        String[] full = {"r1;r1;ta-r01cofl;tb-r09of;ta-r01cofk00;tf-r01sol;tl-r09of;d01n01;d01s04;",
+            "r1;r1;tf-r01so;tf-r01sl;tb-r01ok00;ta-r09of;tl-r09of;d01e03;d01w04;"};
+        String bare = "r0;r0;" + "tb-r01;".repeat(5) + "d10n;";
+        Rooms rooms = Check.laid(bare);
+        String fresh = Check.look(rooms);
+        for (String house : full) {
+            Check.type(rooms, house);
+            check.due("lay()", rooms.lay(), 2);
+        }
+        Check.type(rooms, bare);
+        check.due("lay()", rooms.lay(), 2);
+        check.dueLook("lay() behind full houses", rooms, fresh);
+        // None of the doors of a house that was told before is one.
+        Rooms told = Check.typed(full[0]);
+        check.due("fault()", told.fault(), NONE);
+        check.due("fault() again", told.fault(), NONE);
+        // What was open, locked or on is not so any more, in the next house.
+        Rooms played = Check.laid("r1;tb-r01;ta-r01cok00;tc-r01l;");
+        check.done(played, "take all", "unlock box with key", "open box", "light lamp");
+        Check.type(played, "r1;tb-r01;ta-r01co;tc-r01fl;tl-r01o;");
+        check.due("lay()", played.lay(), 1);
+        check.dueRow("open", t -> played.thing(t, 6), NONE, 0, NONE, 0);
+        check.dueRow("locked", t -> played.thing(t, 7), NONE, NONE, NONE, NONE);
+        check.dueRow("on", t -> played.thing(t, 8), NONE, NONE, 0, NONE);
     }
 
     private static void refusals(Check check) {

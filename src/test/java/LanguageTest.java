@@ -18,7 +18,8 @@ public final class LanguageTest {
     private static final Set<String> FACE = new TreeSet<>(List.of("BAD", "NO", "FULL", "NONE", "TypedRooms()",
         "write(int)", "wipe()", "fault()", "lay()", "say()", "undo()", "doubt()", "would(int,int,int)", "thing(int,int)",
         "room(int,int)", "way(int,int)", "door(int,int)", "steps(int,int,int)", "count(int)"));
-    private static final Set<String> LIBRARY = Set.of("Integer.bitCount", "Math.min", "System.arraycopy");
+    private static final Pattern LIBRARY = Pattern.compile("(?:Integer|Long|Math)\\.\\w+(?<!Exact)"
+        + "|System\\.arraycopy|Arrays\\.(?:copyOf|copyOfRange|fill)|List\\.of");
 
     public static void main(String[] args) throws IOException {
         String source = Files.readString(SOURCE);
@@ -52,6 +53,10 @@ public final class LanguageTest {
             check.due(inside + " is static", Modifier.isStatic(inside.getModifiers()) ? 1 : 0, 1);
             long fields = Arrays.stream(inside.getDeclaredFields()).filter(field -> !Modifier.isStatic(field.getModifiers())).count();
             check.due(inside + " has few fields", fields <= 20 ? 1 : 0, 1);
+            for (Field field : inside.getDeclaredFields()) {
+                boolean isFree = Modifier.isStatic(field.getModifiers()) && !Modifier.isFinal(field.getModifiers());
+                check.due(field + " is static and not final", isFree ? 1 : 0, 0);
+            }
         }
         check.due("few classes", TypedRooms.class.getDeclaredClasses().length <= 11 ? 1 : 0, 1);
     }
@@ -65,18 +70,21 @@ public final class LanguageTest {
     }
 
     private static void words(Check check, String code) {
-        for (String word : new String[] {"throw", "throws", "try", "catch", "synchronized", "assert", "package", "import",
-            "protected", "equals", "hashCode", "toString", "->", "::", "while"}) {
-            Pattern pattern = Pattern.compile(Character.isLetter(word.charAt(0)) ? "\\b" + word + "\\b" : Pattern.quote(word));
-            check.due("\"" + word + "\" in the program", pattern.matcher(code).find() ? 1 : 0, 0);
+        String word = "\\b(?:throws?|try|catch|synchronized|assert|package|protected|boolean equals|int hashCode|String toString)\\b";
+        String reference = "::";
+        String lambda = "(?m)^(?!\\s*(?:case|default)\\b).*->";
+        String imported = "\\bimport (?!java\\.util\\.(?:ArrayList|List|Iterator|Arrays);)";
+        String qualified = "(?m)^(?!import\\b).*\\bjavax?\\.";
+        for (String rule : new String[] {word, reference, lambda, imported, qualified}) {
+            Matcher found = Pattern.compile(rule).matcher(code);
+            check.due(found.find() ? "\"" + found.group().strip() + "\" in the program" : rule, found.reset().find() ? 1 : 0, 0);
         }
-        check.due("constants and members that are public", code.split("\\bpublic\\b").length - 1, 17);
     }
 
     private static void library(Check check, String code) {
-        Matcher call = Pattern.compile("\\b(?:Integer|Long|Math|System|Arrays|Character|String|Objects)\\.\\w+").matcher(code);
+        Matcher call = Pattern.compile("\\b(?:Integer|Long|Math|System|Arrays|List|Character|String|Objects)\\.\\w+").matcher(code);
         while (call.find()) {
-            check.due(call.group() + " is one of few", LIBRARY.contains(call.group()) ? 1 : 0, 1);
+            check.due(call.group() + " is one of few", LIBRARY.matcher(call.group()).matches() ? 1 : 0, 1);
         }
     }
 
@@ -91,6 +99,7 @@ public final class LanguageTest {
             check.due(head.group().strip() + " is short", lines <= 60 ? 1 : 0, 1);
             check.due(head.group().strip() + " takes few", head.group(2).split(",").length <= 7 ? 1 : 0, 1);
         }
-        check.due("methods were found", found > 80 ? 1 : 0, 1);
+        // Those of the face at least; else the pattern does not see how the program is written.
+        check.due("methods were found", found >= 14 ? 1 : 0, 1);
     }
 }

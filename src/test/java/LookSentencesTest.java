@@ -136,6 +136,13 @@ public final class LookSentencesTest {
         check.done(rooms, "close red door", "open it", "open blue door", "w");
         check.dueRow("seen", t -> rooms.thing(t, 10), 1, 1, 0, 1);
         check.due("a door is not counted twice", rooms.count(9), 3);
+        // From behind by each side.
+        for (char side : "nsew".toCharArray()) {
+            Rooms behind = Check.laid("r1;r1;tl-r19of;d10" + side + "00;");
+            check.due("seen by " + side + " from behind", behind.thing(0, 10), 1);
+            check.due("how many", behind.count(9), 1);
+            check.due("out", behind.room(0, 2), 0);
+        }
     }
 
     private static void seenInTheDark(Check check) {
@@ -164,6 +171,9 @@ public final class LookSentencesTest {
         check.dueRow("total", t -> moved.thing(t, 5), 6, 5, 3);
         check.done(moved, "take cup");
         check.dueRow("total", t -> moved.thing(t, 5), 3, 2, 3);
+        Rooms last = Check.laid("r1;tb-r01;ta-r02c;te-r03c;");
+        check.done(last, "take key", "put key in bag", "take bag", "put bag in box");
+        check.dueRow("total", t -> last.thing(t, 5), 1, 6, 4);
     }
 
     private static void things(Check check) {
@@ -329,7 +339,11 @@ public final class LookSentencesTest {
         check.dueRow("in it", r -> rooms.room(r, 3), 4, 1, BAD);
         check.done(rooms, "n", "s");
         check.dueRow("in it, closed or not, wherever you are", r -> rooms.room(r, 3), 4, 1, BAD);
-        check.done(rooms, "take box", "n", "drop box");
+        check.done(rooms, "take box");
+        check.dueRow("in it, what is held is not", r -> rooms.room(r, 3), 1, 1, BAD);
+        check.done(rooms, "n");
+        check.dueRow("in it, what is held is not", r -> rooms.room(r, 3), 1, 1, BAD);
+        check.done(rooms, "drop box");
         check.dueRow("in it", r -> rooms.room(r, 3), 1, 4, BAD);
         check.due("an empty room", Check.laid("r1;r1;tb-r01;").room(1, 3), 0);
     }
@@ -366,6 +380,11 @@ public final class LookSentencesTest {
         check.dueRow("door from 0,", by -> rooms.door(0, by), 0, NO, NONE, NO, BAD);
         check.dueRow("door from 1,", by -> rooms.door(1, by), 1, 0, NO, NO, BAD);
         check.dueRow("door from 2,", by -> rooms.door(2, by), NO, 1, NO, NONE, BAD);
+        check.due("door(1, -1)", rooms.door(1, -1), BAD);
+        check.due("door(3, 0)", rooms.door(3, 0), BAD);
+        for (int by : WRAPPED) {
+            check.due("door(0, " + by + ")", rooms.door(0, by), BAD);
+        }
     }
 
     private static void fewest(Check check) {

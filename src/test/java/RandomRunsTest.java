@@ -2,8 +2,9 @@ import java.util.Random;
 
 /** Random runs of calls, each answered by TypedRooms and by the Reference; the same runs each time. */
 public final class RandomRunsTest {
-    private static final int RUNS = 1000;
-    private static final int STEPS = 60;
+    private static final int RUNS = 6000;
+    /** What looksAfterStep() asks at most. */
+    private static final int LOOKS = 6;
     private static final String[] NOUNS = "box key lamp coin bag table chest book cup rope ball door".split(" ");
     private static final String[] ADJECTIVES = "red blue old new big small gold iron".split(" ");
     private static final String[] WORDS = ("box key lamp coin bag table chest book cup rope ball door "
@@ -14,14 +15,17 @@ public final class RandomRunsTest {
         "unlock P with P", "put P in P", "light P", "take all", "drop all", "look", "wait", "go D", "D", "D",
         "unlock X with K", "lock X with K", "take K", "open X"};
     private static final String[] LAMP_FORMS = {"wait", "wait", "wait", "light L", "take L", "look", "D"};
+    private static final String[] LOCK_FORMS = {"unlock X with K", "lock X with K", "take K", "open X", "close X", "lock X with P", "D"};
 
     private final Check check;
     private final Random random;
-    private TypedRooms rooms;
+    private Rooms rooms;
     private Reference reference;
     private final StringBuilder trail = new StringBuilder();
     private int nouns;
-    private boolean lampRun;
+    /** What most sentences of the run are; some need many, one behind the other, to come to all answers. */
+    private String[] forms;
+    private boolean burns;
 
     private RandomRunsTest(Check check, long seed) {
         this.check = check;
@@ -42,40 +46,55 @@ public final class RandomRunsTest {
     }
 
     private void play(int[] answered) {
-        rooms = new TypedRooms();
+        rooms = new Rooms();
         reference = new Reference();
         nouns = 1 + random.nextInt(4);
-        lampRun = random.nextInt(4) == 0;
-        if (random.nextInt(8) != 0) {
+        int kind = random.nextInt(4);
+        burns = kind == 0;
+        forms = burns ? LAMP_FORMS : kind == 1 ? LOCK_FORMS : FORMS;
+        if (random.nextInt(burns ? 2 : 8) != 0) {
             tell(house());
-            due("fault()", rooms.fault(), reference.fault());
-            due("lay()", rooms.lay(), reference.lay());
+            lay();
         }
-        compareAll();
-        for (int step = 0; step < STEPS && !check.isWrong(); step++) {
-            int kind = random.nextInt(40);
-            if (kind == 0) {
-                tell(house());
-                due("fault()", rooms.fault(), reference.fault());
-                if (random.nextBoolean()) {
-                    due("lay()", rooms.lay(), reference.lay());
-                }
-            } else if (kind < 4) {
+        int steps = random.nextInt(80);
+        for (int step = 0; step < steps && !check.isWrong() && playStep(answered); step++) {
+            lookAfterStep();
+        }
+        while (rooms.callsLeft() > 0 && !check.isWrong()) {
+            if (random.nextInt(20) == 0) {
                 due("undo()", rooms.undo(), reference.undo());
             } else {
-                tell(sentence());
-                due("say()", rooms.say(), reference.say(), answered);
-            }
-            compareSome();
-            if (step % 20 == 0) {
-                compareAll();
+                lookSomewhere();
             }
         }
-        for (int i = 0; i < 10; i++) {
+    }
+
+    /** One sentence, house or undo; false: there are too few calls left for it. */
+    private boolean playStep(int[] answered) {
+        int kind = random.nextInt(40);
+        boolean isHouse = kind == 0;
+        boolean isAgain = kind > 36 || burns && kind > 15 && !reference.isAsked();
+        String text = isHouse ? house() : isAgain ? "" : sentence();
+        if (rooms.callsLeft() < text.length() + 3 + LOOKS) {
+            return false;
+        }
+        if (isHouse) {
+            tell(text);
+            lay();
+        } else if (kind < 4) {
             due("undo()", rooms.undo(), reference.undo());
-            compareSome();
+        } else {
+            if (!isAgain) {
+                tell(text);
+            }
+            due("say()", rooms.say(), reference.say(), answered);
         }
-        compareAll();
+        return true;
+    }
+
+    private void lay() {
+        due("fault()", rooms.fault(), reference.fault());
+        due("lay()", rooms.lay(), reference.lay());
     }
 
     private void due(String call, int got, int want) {
@@ -181,15 +200,16 @@ public final class RandomRunsTest {
             }
             return text.toString();
         }
-        if (kind < 3 || rooms.doubt() >= 0 && kind < 14) {
+        if (kind < 3 || reference.isAsked() && kind < 14) {
             return answer();
         }
-        String[] forms = lampRun && random.nextInt(5) != 0 ? LAMP_FORMS : FORMS;
-        String form = forms[random.nextInt(forms.length)];
-        int locked = firstWith(11, 0);
+        String[] some = random.nextInt(5) != 0 ? forms : FORMS;
+        String form = some[random.nextInt(some.length)];
+        int locked = oneWith(11, 0);
         form = form.replace("X", locked < 0 ? "P" : named(locked, true));
         form = form.replace("K", locked < 0 ? "P" : named(reference.thing(locked, 11), true));
-        form = form.replace("L", firstWith(8, 0) < 0 ? "P" : named(firstWith(8, 0), true));
+        int lamp = oneWith(8, 0);
+        form = form.replace("L", lamp < 0 ? "P" : named(lamp, true));
         while (form.contains("P")) {
             form = form.replaceFirst("P", phrase());
         }
@@ -210,9 +230,13 @@ public final class RandomRunsTest {
         return (whole && reference.thing(t, 1) >= 0 ? ADJECTIVES[reference.thing(t, 1)] + " " : "") + noun;
     }
 
-    private int firstWith(int what, int least) {
-        for (int t = 0; t < reference.count(1); t++) {
-            if (reference.thing(t, what) >= least) {
+    /** A THING that is seen and answers so many or more; -1 if there is none. */
+    private int oneWith(int what, int least) {
+        int things = reference.count(1);
+        int first = random.nextInt(16);
+        for (int i = 0; i < things; i++) {
+            int t = (first + i) % things;
+            if (reference.thing(t, 10) == 1 && reference.thing(t, what) >= least) {
                 return t;
             }
         }
@@ -239,41 +263,40 @@ public final class RandomRunsTest {
 
     // ---- what is compared
 
-    private void compareSome() {
+    private void lookAfterStep() {
         look("doubt()", rooms.doubt(), reference.doubt());
-        for (int what = -1; what <= 12; what++) {
-            look("count(" + what + ")", rooms.count(what), reference.count(what));
+        for (int i = 1; i < LOOKS; i++) {
+            lookSomewhere();
         }
-        compareWould();
     }
 
-    private void compareWould() {
-        int act = random.nextInt(14) - 1;
-        int x = random.nextInt(12) - 1;
-        int y = random.nextInt(12) - 1;
+    private void lookSomewhere() {
+        int r = random.nextInt(8) - 1;
+        int what = random.nextInt(6) - 1;
+        switch (random.nextInt(10)) {
+            case 0 -> look("room(" + r + "," + what + ")", rooms.room(r, what), reference.room(r, what));
+            case 1 -> look("way(" + r + "," + what + ")", rooms.way(r, what), reference.way(r, what));
+            case 2 -> look("door(" + r + "," + what + ")", rooms.door(r, what), reference.door(r, what));
+            case 3 -> lookSteps(r, random.nextInt(8) - 1, random.nextInt(10) == 0 ? 2 : random.nextInt(2));
+            case 4 -> lookWould(random.nextInt(14) - 1, random.nextInt(12) - 1, random.nextInt(12) - 1);
+            case 5, 6 -> lookCount(random.nextInt(14) - 1);
+            default -> lookThing(random.nextInt(18) - 1, random.nextInt(16) - 1);
+        }
+    }
+
+    private void lookSteps(int a, int b, int which) {
+        look("steps(" + a + "," + b + "," + which + ")", rooms.steps(a, b, which), reference.steps(a, b, which));
+    }
+
+    private void lookWould(int act, int x, int y) {
         look("would(" + act + "," + x + "," + y + ")", rooms.would(act, x, y), reference.would(act, x, y));
     }
 
-    private void compareAll() {
-        for (int t = -1; t <= 16; t++) {
-            for (int what = -1; what <= 14; what++) {
-                look("thing(" + t + "," + what + ")", rooms.thing(t, what), reference.thing(t, what));
-            }
-        }
-        for (int r = -1; r <= 6; r++) {
-            for (int what = -1; what <= 4; what++) {
-                look("room(" + r + "," + what + ")", rooms.room(r, what), reference.room(r, what));
-                look("way(" + r + "," + what + ")", rooms.way(r, what), reference.way(r, what));
-                look("door(" + r + "," + what + ")", rooms.door(r, what), reference.door(r, what));
-            }
-            for (int b = -1; b <= 6; b++) {
-                for (int which = -1; which <= 2; which++) {
-                    look("steps(" + r + "," + b + "," + which + ")", rooms.steps(r, b, which), reference.steps(r, b, which));
-                }
-            }
-        }
-        for (int i = 0; i < 20; i++) {
-            compareWould();
-        }
+    private void lookCount(int what) {
+        look("count(" + what + ")", rooms.count(what), reference.count(what));
+    }
+
+    private void lookThing(int t, int what) {
+        look("thing(" + t + "," + what + ")", rooms.thing(t, what), reference.thing(t, what));
     }
 }

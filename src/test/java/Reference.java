@@ -550,6 +550,10 @@ final class Reference {
         return past.size();
     }
 
+    boolean isAsked() {
+        return asked != 0;
+    }
+
     int doubt() {
         if (asked == 0) {
             return NONE;

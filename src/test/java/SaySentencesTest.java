@@ -105,7 +105,7 @@ public final class SaySentencesTest {
             check.due("held", rooms.thing(5, 2), 2);
         }
         for (String wrong : new String[] {"the", "old", "the old", "the the lamp", "old old lamp", "old the lamp", "lamp old",
-            "lamp lamp", "old new lamp", "the it", "old it", "it lamp", "it it", "the old it", "lamp it", "the all", "n"}) {
+            "lamp lamp", "old new lamp", "take lamp", "go lamp", "the wait lamp", "n lamp", "the it", "old it", "it lamp", "it it", "the old it", "lamp it", "the all", "n"}) {
             say(check, 2, "drop " + wrong, "open " + wrong, "put " + wrong + " in box", "put box in " + wrong,
                 "take box from " + wrong, "take " + wrong + " from box", "lock box with " + wrong, "look in " + wrong);
         }
